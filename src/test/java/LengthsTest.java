@@ -201,6 +201,14 @@ public final class LengthsTest {
         y.may(0, 0, false);
         check.due("no WORDS of 2 LETTERS: below", y.growth(1, 9, 2), -1);
         check.due("of 1 LETTER there is one", y.growth(1, 9, 1), 0);
+        y.begin(2, 0);
+        check.table(y, 0, 4, 1, 0);
+        check.due("above not at 1", y.growth(7, 4, 1), 0);
+        check.due("above at 2", y.growth(7, 4, 2), 1);
+        check.due("above at 2, not at 3", y.growth(7, 4, 3), 1);
+        check.due("below not at 1", y.growth(9, 4, 1), 0);
+        check.due("below at 2", y.growth(9, 4, 2), -1);
+        check.due("below at 2, not at 3", y.growth(9, 4, 3), -1);
         y.begin(3, 0);
         check.table(y, 9, 9, 9, 9, 9, 9, 9, 9, 9);
         check.due("great numbers above", y.growth(1, 9, 7), 1);
@@ -283,5 +291,14 @@ public final class LengthsTest {
         check.due("rings again", x.rings(2), 1);
         x.begin(2, 0);
         check.due("begun anew", x.length(2, 0), 0);
+        check.due("begun anew: least", x.length(2, 2), LOST);
+        check.due("begun anew: rings", x.rings(2), 0);
+        check.due("begun anew: ringTrack", x.ringTrack(2), LOST);
+        check.due("begun anew: ring", x.ring(2, 0), -9);
+        check.due("begun anew: extreme", x.extreme(2, 0, 0), -9);
+        check.table(x, 0, 0, 0, 0);
+        check.due("nought", x.length(1, 3), 1);
+        x.begin(2, 0);
+        check.due("begun anew: nought", x.length(1, 3), 0);
     }
 }

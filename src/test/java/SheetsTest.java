@@ -130,6 +130,13 @@ public final class SheetsTest {
         check.due("tell(1)", y.tell(1), 1);
         check.due("tell(2)", y.tell(2), 2);
         check.due("tell(3)", y.tell(3), -7);
+        y.begin(2, 0);
+        check.table(y, 0, 0, 0, 0);
+        check.table(y, 7, 1, 1, 1);
+        check.table(y, -1, 2, 2, 1);
+        check.due("the greatest entry is 0", y.tell(0), 0);
+        check.due("the greatest entry is the first", y.tell(1), 15);
+        check.due("the first entry is below 0", y.tell(2), 0);
     }
 
     private static void weigh(Check check) {
@@ -175,6 +182,16 @@ public final class SheetsTest {
         check.due("two in a column", y.as(3, 2), -12);
         check.table(y, 2, -1, -1, 2);
         check.due("sums of 1 with one below 0", y.as(4, 2), -12);
+        check.table(y, 2, 0, 0, 1);
+        check.due("the first row alone is none", y.as(5, 2), -12);
+        y.begin(2, 0);
+        check.table(y, -1, 0, 0, 1);
+        check.due("the first entry is below 0", y.as(0, 1), -12);
+        check.table(y, 1, 0, 0, 2);
+        check.due("the last row alone is none", y.as(1, 2), -12);
+        check.table(y, 0, 0, 0, 0);
+        check.due("all 0 is EVEN", y.as(2, 1), 1);
+        check.due("all 0 is no SHUFFLE", y.as(2, 2), -12);
     }
 
     private static void history(Check check) {
