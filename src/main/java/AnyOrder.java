@@ -729,7 +729,11 @@ public final class AnyOrder {
         }
 
         private long restOf(long v) {
-            return m > 0 ? Math.floorMod(v, (long) m) : v;
+            if (m <= 0) {
+                return v;
+            }
+            long rest = v % m;
+            return rest < 0 ? rest + m : rest;
         }
 
         /** The row that is written is neither of the two that are read. */
