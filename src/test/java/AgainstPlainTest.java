@@ -164,47 +164,8 @@ public final class AgainstPlainTest {
         }
         calls++;
         long want = plain.call(name, p);
-        long got = ask(name, p);
+        long got = Calls.ask(real, name, p);
         differed = got != want;
-        StringBuilder text = new StringBuilder("call ").append(calls).append(": ").append(name);
-        for (int v : p) {
-            text.append(' ').append(v);
-        }
-        check.due(text.toString(), got, want);
-    }
-
-    private long ask(String name, int[] p) {
-        switch (name) {
-            case "begin": return real.begin(p[0], p[1]);
-            case "table": return real.table(p[0], p[1], p[2]);
-            case "entry": return real.entry(p[0], p[1], p[2]);
-            case "may": return real.may(p[0], p[1], p[2] != 0);
-            case "length": return real.length(p[0], p[1]);
-            case "extreme": return real.extreme(p[0], p[1], p[2]);
-            case "rings": return real.rings(p[0]);
-            case "ringTrack": return real.ringTrack(p[0]);
-            case "ring": return real.ring(p[0], p[1]);
-            case "growth": return real.growth(p[0], p[1], p[2]);
-            case "close": return real.close();
-            case "closed": return real.closed(p[0]);
-            case "product": return real.product(p[0], p[1], p[2]);
-            case "times": return real.times(p[0], p[1]);
-            case "word": return real.word(p[0], p[1], p[2], p[3]);
-            case "join": return real.join(p[0], p[1]);
-            case "letter": return real.letter(p[0], p[1]);
-            case "about": return real.about(p[0], p[1]);
-            case "entryOf": return real.entryOf(p[0], p[1], p[2]);
-            case "size": return real.size(p[0], p[1]);
-            case "sheet": return real.sheet(p[0], p[1], p[2]);
-            case "lose": return real.lose(p[0]);
-            case "put": return real.put(p[0], p[1], p[2]);
-            case "at": return real.at(p[0], p[1], p[2]);
-            case "tell": return real.tell(p[0]);
-            case "weigh": return real.weigh(p[0]);
-            case "as": return real.as(p[0], p[1]);
-            case "history": return real.history();
-            case "fault": return real.fault();
-            default: return real.told(p[0]);
-        }
+        check.due("call " + calls + ": " + Calls.text(name, p), got, want);
     }
 }
