@@ -602,14 +602,20 @@ public final class AnyOrder {
         private int m;
 
         Tables() {
-            Arrays.fill(allowed, true);
+            allowAll();
         }
 
         void restart(int newD, int newM) {
             d = newD;
             m = newM;
             tableCount = 0;
-            Arrays.fill(allowed, true);
+            allowAll();
+        }
+
+        private void allowAll() {
+            for (int pair = 0; pair < MAX_TABLES * MAX_TABLES; pair++) {
+                allowed[pair] = true;
+            }
         }
 
         int count() {

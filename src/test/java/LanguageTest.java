@@ -9,7 +9,8 @@ public final class LanguageTest {
     private static final String[] FORBIDDEN = {
         "\\bthrow\\b", "\\btry\\b", "\\bcatch\\b", "\\bsynchronized\\b", "\\bassert\\b", "->", "::", "\\bpackage\\b",
         "\\bprotected\\b", "Exact\\b", "\\bString\\b", "@\\w+", "\\bvar\\b", "\\bObject\\b", "\\bSystem\\.(?!arraycopy)",
-        "\\bArrays\\.(?!fill|copyOf\\b|copyOfRange)", "\\bwhile\\s*\\(true", "for\\s*\\(\\s*;", "\\bdouble\\b", "\\bfloat\\b"
+        "\\bArrays\\.(?!fill|copyOf\\b|copyOfRange)", "Arrays\\.fill\\([^;]*\\b(true|false)\\)",
+        "\\bwhile\\s*\\(true", "for\\s*\\(\\s*;", "\\bdouble\\b", "\\bfloat\\b"
     };
 
     public static void main(String[] args) throws IOException {

@@ -338,6 +338,13 @@ public final class TablesEdgeTest {
             e.refusedForEach(UNKNOWN, new int[] {-1, 2, 5, 6, LEAST, MOST}, 1, "may", 0, 0, is);
             e.refused(UNKNOWN, "may", 2, 2, is);
         }
+        e.sentence(5, "UNKNOWN changes nothing: also of a TABLE that comes later");
+        e.tables(1);
+        e.due(UNKNOWN, "may", 0, 1, 0);
+        e.due(UNKNOWN, "may", 1, 0, 0);
+        e.due(UNKNOWN, "may", 1, 1, 0);
+        e.tables(1);
+        e.due(4, "told", 4);
         e.sentence(5, "UNKNOWN, of six TABLES");
         e.tables(6);
         e.refused(UNKNOWN, "may", 6, 5, 0);
