@@ -449,18 +449,12 @@ public final class SheetsEdgeTest {
         e.sentence(30, "it came to none");
         e.tables(1);
         e.fill(0, 0, Edge.all(4, 0));
-        Object[][] fine = {{"table", 1, 0, 0, 0}, {"word", 0, 0, 0, 0, 1}, {"sheet", 1, 1, 0, 1}, {"put", 1, 0, 0, 0},
-            {"at", 0, 0, 0, 0}, {"as", 1, 0, 0}};
-        for (Object[] call : fine) {
-            e.due(SIZE, "sheet", 0, 0, -1);
-            e.due(4, "fault");
-            int[] p = new int[call.length - 2];
-            for (int i = 0; i < p.length; i++) {
-                p[i] = (int) call[i + 2];
-            }
-            e.due((int) call[1], (String) call[0], p);
-            e.due(0, "fault");
-        }
+        comesToNone(e, 1, "table", 0, 0, 0);
+        comesToNone(e, 0, "word", 0, 0, 0, 1);
+        comesToNone(e, 1, "sheet", 1, 0, 1);
+        comesToNone(e, 1, "put", 0, 0, 0);
+        comesToNone(e, 0, "at", 0, 0, 0);
+        comesToNone(e, 1, "as", 0, 0);
         e.sentence(30, "or was refused: also by FULL and behind a FAULT's place");
         e.tables(6);
         e.words(10);
@@ -483,6 +477,13 @@ public final class SheetsEdgeTest {
         e.due(LOST, "at", 1, 0, 0);
         e.due(1, "fault");
         e.due(1, "fault");
+    }
+
+    private static void comesToNone(Edge e, long want, String name, int... p) {
+        e.due(SIZE, "sheet", 0, 0, -1);
+        e.due(4, "fault");
+        e.due(want, name, p);
+        e.due(0, "fault");
     }
 
     /** For each call that names no FAULT, answered and refused. */
