@@ -1,7 +1,8 @@
 import java.util.Random;
 
-/** Long runs of calls drawn from fixed seeds: AnyOrder and PlainOrder must answer alike. */
+/** Runs of 512 calls drawn from fixed seeds: AnyOrder and PlainOrder must answer alike. */
 public final class AgainstPlainTest {
+    private static final int CALLS_OF_AN_OBJECT = 512;
     private static final int[] EDGES = {-1, 99, 2000, Integer.MAX_VALUE, Integer.MIN_VALUE};
     private static final String[] CALLS = {
         "table", "table", "entry", "may", "may", "may", "length", "length", "length",
@@ -47,7 +48,7 @@ public final class AgainstPlainTest {
             begin();
         }
         stock();
-        while (calls < 500 && !differed) {
+        while (calls < CALLS_OF_AN_OBJECT && !differed) {
             if (random.nextInt(120) == 0) {
                 begin();
                 stock();
@@ -159,7 +160,7 @@ public final class AgainstPlainTest {
     }
 
     private void compare(String name, int... p) {
-        if (differed || calls >= 512) {
+        if (differed || calls >= CALLS_OF_AN_OBJECT) {
             return;
         }
         calls++;

@@ -1,13 +1,20 @@
+import java.io.IOException;
 import java.lang.reflect.Constructor;
 import java.lang.reflect.Field;
 import java.lang.reflect.Method;
 import java.lang.reflect.Modifier;
+import java.nio.file.Files;
 import java.util.Arrays;
+import java.util.Map;
 import java.util.Set;
+import java.util.TreeMap;
 import java.util.TreeSet;
+import java.util.regex.Matcher;
+import java.util.regex.Pattern;
 
 /** The public face: the document's constants, constructor and methods, all of them and no others. */
 public final class FaceTest {
+    private static final int CONSTANT = Modifier.PUBLIC | Modifier.STATIC | Modifier.FINAL;
     private static final String[] METHODS = {
         "int begin(int, int)", "int table(int, int, int)", "long entry(int, int, int)",
         "int may(int, int, boolean)", "long length(int, int)", "int extreme(int, int, int)",
@@ -19,51 +26,103 @@ public final class FaceTest {
         "int tell(int)", "int weigh(int)", "int as(int, int)", "int history()", "int fault()", "int told(int)"
     };
 
-    public static void main(String[] args) {
+    public static void main(String[] args) throws IOException, IllegalAccessException {
         Check check = new Check();
-        check.part("constants");
-        check.due("UNKNOWN", AnyOrder.UNKNOWN, -1);
-        check.due("OUTSIDE", AnyOrder.OUTSIDE, -2);
-        check.due("STATE", AnyOrder.STATE, -3);
-        check.due("FULL", AnyOrder.FULL, -4);
-        check.due("SPENT", AnyOrder.SPENT, -6);
-        check.due("NONE", AnyOrder.NONE, -9);
-        check.due("LOST", AnyOrder.LOST, Long.MIN_VALUE);
-        visibleMembers(check);
+        constants(check);
+        methods(check);
+        hiddenMethods(check);
+        constructors(check);
+        theClass(check);
+        document(check);
         check.end();
     }
 
-    private static void visibleMembers(Check check) {
-        check.part("face");
+    private static Map<String, Long> constantsDue() {
+        Map<String, Long> due = new TreeMap<>();
+        due.put("int UNKNOWN", -1L);
+        due.put("int OUTSIDE", -2L);
+        due.put("int STATE", -3L);
+        due.put("int FULL", -4L);
+        due.put("int SPENT", -6L);
+        due.put("int NONE", -9L);
+        due.put("long LOST", -9223372036854775808L);
+        return due;
+    }
+
+    private static void constants(Check check) throws IllegalAccessException {
+        check.part("constants");
+        Map<String, Long> found = new TreeMap<>();
+        for (Field field : AnyOrder.class.getDeclaredFields()) {
+            if (!Modifier.isPrivate(field.getModifiers()) && !field.isSynthetic()) {
+                check.holds(field + " is public, static and final", field.getModifiers() == CONSTANT);
+                boolean isRead = field.getModifiers() == CONSTANT && field.getType().isPrimitive();
+                found.put(field.getType() + " " + field.getName(), isRead ? field.getLong(null) : 0);
+            }
+        }
+        check.holds("the constants are " + found, found.equals(constantsDue()));
+    }
+
+    private static void methods(Check check) {
+        check.part("methods");
         Set<String> methods = new TreeSet<>();
-        Set<String> hidden = new TreeSet<>();
         for (Method method : AnyOrder.class.getDeclaredMethods()) {
-            if (Modifier.isPrivate(method.getModifiers())) {
-                hidden.add(method.getName());
-            } else {
+            if (!Modifier.isPrivate(method.getModifiers()) && !method.isSynthetic()) {
                 methods.add(textOf(method));
                 check.holds(method + " is public and of the object", method.getModifiers() == Modifier.PUBLIC);
+                check.due(method + " names exceptions", method.getExceptionTypes().length, 0);
             }
         }
         check.holds("the methods are " + methods, methods.equals(new TreeSet<>(Arrays.asList(METHODS))));
+    }
+
+    private static void hiddenMethods(Check check) {
+        Set<String> names = new TreeSet<>();
+        for (String method : METHODS) {
+            names.add(method.substring(method.indexOf(' ') + 1, method.indexOf('(')));
+        }
+        check.due("calls", names.size(), 30);
         for (Method method : AnyOrder.class.getDeclaredMethods()) {
-            if (!Modifier.isPrivate(method.getModifiers())) {
-                check.holds("no private method is named " + method.getName(), !hidden.contains(method.getName()));
-            }
+            check.holds("no private method is named " + method.getName(),
+                !Modifier.isPrivate(method.getModifiers()) || !names.contains(method.getName()));
         }
-        Set<String> fields = new TreeSet<>();
-        for (Field field : AnyOrder.class.getDeclaredFields()) {
-            if (!Modifier.isPrivate(field.getModifiers())) {
-                fields.add(field.getType() + " " + field.getName());
-            }
-        }
-        check.holds("the constants are " + fields, fields.equals(new TreeSet<>(Arrays.asList(
-            "int UNKNOWN", "int OUTSIDE", "int STATE", "int FULL", "int SPENT", "int NONE", "long LOST"))));
+    }
+
+    private static void constructors(Check check) {
+        check.part("constructor");
         Constructor<?>[] constructors = AnyOrder.class.getDeclaredConstructors();
         check.due("constructors", constructors.length, 1);
-        check.holds("the constructor is public", Modifier.isPublic(constructors[0].getModifiers()));
+        check.holds("the constructor is public", constructors[0].getModifiers() == Modifier.PUBLIC);
+        check.due("its parameters", constructors[0].getParameterCount(), 0);
+    }
+
+    private static void theClass(Check check) {
+        check.part("class");
         check.holds("the class is public and final",
             AnyOrder.class.getModifiers() == (Modifier.PUBLIC | Modifier.FINAL));
+        check.holds("it is of no other class", AnyOrder.class.getSuperclass() == Object.class);
+        check.due("interfaces", AnyOrder.class.getInterfaces().length, 0);
+        for (Class<?> inside : AnyOrder.class.getDeclaredClasses()) {
+            int modifiers = inside.getModifiers();
+            check.holds(inside + " is static, and not public or protected", Modifier.isStatic(modifiers)
+                && !Modifier.isPublic(modifiers) && !Modifier.isProtected(modifiers));
+        }
+    }
+
+    /** The list above is the document's own. */
+    private static void document(Check check) throws IOException {
+        check.part("the document's face");
+        String face = Files.readString(Document.PATH);
+        Set<String> methods = new TreeSet<>();
+        Matcher line = Pattern.compile("(?m)^ +public (int|long) (\\w+)\\(([^)]*)\\);").matcher(face);
+        while (line.find()) {
+            methods.add(line.group(1) + " " + line.group(2) + "(" + line.group(3).replaceAll(" \\w+(?=,|$)", "") + ")");
+        }
+        check.holds("its methods are " + methods, methods.equals(new TreeSet<>(Arrays.asList(METHODS))));
+        for (Map.Entry<String, Long> constant : constantsDue().entrySet()) {
+            String name = constant.getKey().substring(constant.getKey().indexOf(' ') + 1);
+            String value = name.equals("LOST") ? "Long.MIN_VALUE" : Long.toString(constant.getValue());
+            check.holds("it has " + name + " = " + value, face.contains(name + " = " + value));
+        }
     }
 
     private static String textOf(Method method) {

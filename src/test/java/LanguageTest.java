@@ -7,10 +7,10 @@ import java.util.regex.Pattern;
 /** What of LANGUAGE.md can be seen in the source's text; run from the project's root. */
 public final class LanguageTest {
     private static final String[] FORBIDDEN = {
-        "\\bthrow\\b", "\\btry\\b", "\\bcatch\\b", "\\bsynchronized\\b", "\\bassert\\b", "->", "::", "\\bpackage\\b",
-        "\\bprotected\\b", "Exact\\b", "\\bString\\b", "@\\w+", "\\bvar\\b", "\\bObject\\b", "\\bSystem\\.(?!arraycopy)",
+        "\\bthrow\\b", "\\btry\\b", "\\bcatch\\b", "\\bsynchronized\\b", "\\bassert\\b", "::", "(?m)^(?!.*\\b(case|default)\\b).*->",
+        "\\bpackage\\b", "\\bprotected\\b", "Exact\\b", "\\bObject\\b", "@(?!Override\\b)\\w+", "\\bSystem\\.(?!arraycopy)",
         "\\bArrays\\.(?!fill|copyOf\\b|copyOfRange)", "Arrays\\.fill\\([^;]*\\b(true|false)\\)",
-        "\\bwhile\\s*\\(true", "for\\s*\\(\\s*;", "\\bdouble\\b", "\\bfloat\\b"
+        "\\bwhile\\s*\\(true", "for\\s*\\(\\s*;", "\\bstatic\\s*\\{", "\\[\\]\\[\\]\\["
     };
 
     public static void main(String[] args) throws IOException {
@@ -25,13 +25,14 @@ public final class LanguageTest {
         }
         Matcher imports = Pattern.compile("import ([\\w.]+);").matcher(code);
         while (imports.find()) {
-            check.holds(imports.group(1) + " is allowed", imports.group(1).equals("java.util.Arrays"));
+            check.holds(imports.group(1) + " is allowed",
+                imports.group(1).matches("java\\.util\\.(Arrays|ArrayList|List|Iterator)"));
         }
         Matcher nested = Pattern.compile("\n +([a-z ]*)class ").matcher(code);
         int classes = 1;
         while (nested.find()) {
             classes++;
-            check.holds("a class inside is private and static", nested.group(1).startsWith("private static "));
+            check.holds("a class inside is static", nested.group(1).contains("static "));
         }
         check.holds("there are twelve classes or fewer", classes <= 12);
         methodLengths(check, code);
@@ -46,6 +47,6 @@ public final class LanguageTest {
             check.holds("short: " + method.group().lines().findFirst().get(), method.group(3).lines().count() <= 60);
             check.holds("seven parameters or fewer", method.group(2).split(",").length <= 7);
         }
-        check.holds("the methods are seen", methods > 100);
+        check.holds("the methods are seen", methods >= 30);
     }
 }
