@@ -119,9 +119,7 @@ public final class GridTest {
         fill(2, 0, 0, 5);
         first("word", 2, 0, 0, 2);
         first("close");
-        sheetCalls();
-        closureCalls();
-        wordCalls();
+        allCalls();
     }
 
     private void allCalls() {
